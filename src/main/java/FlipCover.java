@@ -1510,16 +1510,37 @@ public final class FlipCover {
         /** What a set of tests reaches, as bits; more tests never reach less. */
         abstract long reached(int tests);
 
+        /** Whether a test does in each set all that another one does there. */
+        abstract boolean standsFor(int test, int other);
+
         /** The lightest set out of some by which, with those had, all wanted is reached; of like ones the least. */
         final int lightestSet(int[] byWeights, long want, int have, int outOf) {
             weights = byWeights;
             wanted = want;
             had = have;
-            free = outOf & ALL_TESTS;
+            free = withoutOutdone(outOf & ALL_TESTS);
             lightest = Integer.MAX_VALUE;
             found = 0;
             choose(this, MOST_TESTS, 0, 0);
             return found;
+        }
+
+        /** Takes out the tests that others stand for, which are lighter, or as light and less as bits. */
+        private int withoutOutdone(int tests) {
+            int kept = tests;
+            for (int t = 0; t < MOST_TESTS; t++) {
+                for (int other = 0; other < MOST_TESTS; other++) {
+                    boolean both = (tests & 1 << t) != 0 && (tests & 1 << other) != 0;
+                    if (both && isBetter(other, t) && standsFor(other, t)) {
+                        kept &= ~(1 << t);
+                    }
+                }
+            }
+            return kept;
+        }
+
+        private boolean isBetter(int test, int other) {
+            return weights[test] < weights[other] || weights[test] == weights[other] && test < other;
         }
 
         private boolean isEnough(int chosen) {
@@ -1536,11 +1557,15 @@ public final class FlipCover {
                 search.found = chosen;
                 return;
             }
+            // more tests never reach less: what was enough once stays so
+            boolean enough = false;
             for (int t = 0; t < bound && t < MOST_TESTS; t++) {
                 int heavier = weight + search.weights[t];
-                int open = search.free & (2 << t) - 1;
-                if (bit(search.free, t) == 1 && heavier < search.lightest && search.isEnough(chosen | open)) {
-                    choose(search, t, chosen | 1 << t, heavier);
+                if (bit(search.free, t) == 1 && heavier < search.lightest) {
+                    enough = enough || search.isEnough(chosen | search.free & (2 << t) - 1);
+                    if (enough) {
+                        choose(search, t, chosen | 1 << t, heavier);
+                    }
                 }
             }
         }
@@ -1619,6 +1644,15 @@ public final class FlipCover {
                 }
             }
             return covered;
+        }
+
+        boolean standsFor(int test, int other) {
+            for (int cond = 0; cond < conditions; cond++) {
+                if ((matesOf(cond, other) & ~matesOf(cond, test)) != 0) {
+                    return false;
+                }
+            }
+            return true;
         }
 
         private boolean holdsPair(int cond, int set) {
@@ -1727,6 +1761,10 @@ public final class FlipCover {
                 }
             }
             return shown;
+        }
+
+        boolean standsFor(int test, int other) {
+            return (shownBy[other] & ~shownBy[test]) == 0;
         }
 
         int killerTests() {
