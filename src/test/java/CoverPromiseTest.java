@@ -80,6 +80,13 @@ public final class CoverPromiseTest {
         // d is looked at by test 1 at look 1, by test 2 at look 2, and is unlike
         x = Bench.of("cond a;cond d;goal a and d or d;");
         due("8: d at unlike looks", x.pair(0, 1, 2, 2), 0);
+        // b flips from 0 to 3, both look at a, unlike
+        x = Bench.of("cond a;cond b;goal a and b;");
+        due("8: a unlike, told ahead", x.pair(1, 0, 3, 2), 0);
+        due("8: a not looked at again", x.pair(0, 0, 3, 2), 1);
+        x = Bench.of("cond a;cond b;goal (a or true) and b;");
+        due("8: a looked at in both, unlike", x.pair(1, 0, 3, 2), 0);
+        due("8: a looked at in both, alike", x.pair(1, 1, 3, 2), 1);
     }
 
     /** Promise 9. */
@@ -111,6 +118,7 @@ public final class CoverPromiseTest {
         due("10: no condition -1", x.pairs(-1, 0), -1);
         due("10: no form", x.pairs(0, 3), -1);
         due("10: no form -1", x.pairs(0, -1), -1);
+        due("10: 0 comes to 1", Bench.of("cond a;goal not a;").pairs(0, 1), 1);
         due("10: nothing flips", Bench.of("cond a;goal true;").pairs(0, 0), 0);
         due("10: not told in the goal", Bench.of("cond a;cond b;goal a;").pairs(1, 2), 0);
     }
@@ -141,6 +149,7 @@ public final class CoverPromiseTest {
         due("18: all", x.covers(46, 0), 7);
         due("18: one", x.covers(44, 0), 1);
         due("18: none", x.covers(0, 0), 0);
+        due("18: 0 comes to 1", Bench.of("cond a;goal not a;").covers(3, 0), 1);
         due("18: every test", x.covers(255, 1), 7);
         due("18: as far", x.covers(1 << 1 | 1 << 7, 2), 2);
         due("18: not such tests", x.covers(256, 0), -1);
@@ -236,6 +245,16 @@ public final class CoverPromiseTest {
         // by a pair of two tests for 20 each, or by three tests that cost less
         x = Bench.of("cond a;cond b;goal a and b;costs (number = 1 or number = 2) * 40 + 1;");
         due("23: all are needed", x.cheapest(0, 0), 83);
+        due("23: 0 costs, too", Bench.of("cond a;goal a;costs 5;").cheapest(0, 0), 10);
+        due("23: by unlike forms", Bench.of("cond a;cond b;goal a;costs 9 - number * 2;").cheapest(2, 1), 12);
+        // 1 3 5 with 2, or with 4, or with 6 and 7, cost 5
+        x = Bench.of(AND_OR + "costs 1 + (number = 2 or number = 4);");
+        due("23: of like cost", x.cheapest(0, 0), 5);
+        due("23: of like cost the fewest", x.cheapest(0, 1), 46);
+        // 6 and 7 are less than one of them
+        x = Bench.of(AND_OR + "costs 1 + 2 * (number = 2 or number = 4);");
+        due("23: more that cost less", x.cheapest(0, 0), 5);
+        due("23: more that cost less, which", x.cheapest(0, 1), 1 << 1 | 1 << 3 | 1 << 5 | 1 << 6 | 1 << 7);
         due("23: nothing to cover", Bench.of("cond a;goal true;costs 5;").cheapest(0, 0), 0);
         due("23: untold, 1 each", Bench.of(AND_OR).cheapest(0, 0), 4);
         due("23: untold, as least", Bench.of(AND_OR).cheapest(0, 1), 46);
@@ -259,6 +278,10 @@ public final class CoverPromiseTest {
         due("24: one again", x.more(0, 1), 32);
         x.undo();
         due("24: undone", x.more(0, 1), 0);
+        while (x.undo()) {
+            due("24: as the log is then", x.covers(x.about(2) | x.more(0, 1), 0), 7);
+        }
+        due("24: empty log again", x.more(0, 1), 46);
         due("24: another what", x.more(0, 2), -1);
         due("24: what -1", x.more(0, -1), -1);
         due("24: no form", x.more(3, 0), -1);

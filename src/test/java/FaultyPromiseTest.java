@@ -60,6 +60,7 @@ public final class FaultyPromiseTest {
         due("32: nothing can be", Bench.of(AND_OR + "never true;").ways(), 0);
         due("32: nothing is looked at", Bench.of("cond a;cond b;").ways(), 1);
         due("32: without conditions", new FlipCover().ways(), 1);
+        due("32: one look, 0 or 1", Bench.of("cond a;goal a;").ways(), 2);
         due("32: true", Bench.of("cond a;goal true;").ways(), 1);
         due("32: like looks, unlike what they are", Bench.of("cond a;cond b;goal a and true or not a and false;").ways(), 2);
         due("32: told again", Bench.of("cond a;cond b;goal a or b or a or b;").ways(), 3);

@@ -8,6 +8,7 @@ public final class TextPromiseTest {
         end();
         decision();
         decisionKeeps();
+        decisionsInTurn();
         faultsOfTokens();
         faultsOfLines();
         faultsOfNumbersAndNames();
@@ -149,6 +150,64 @@ public final class TextPromiseTest {
         due("4: new, box", x.merge(1), -1);
         due("4: new, box back", x.back(1), -1);
         due("4: new, first seen", x.seen(0, true), 0);
+    }
+
+    /** Promise 4: nothing is left of decisions ahead, nor of texts with a fault. */
+    private static void decisionsInTurn() {
+        String[] texts = {
+            "cond a;cond b;cond c;cond d;goal a and (b or not c) or d;never a and d;never b and c;costs ones * 7 + looks;"
+                + "loses 12;draw 34;",
+            "cond a;cond b;goal b;never a;costs 3;loses 40;draw 5;",
+            "cond b;cond a;cond c;goal a and c;",
+            "cond a;cond b;cond c;cond d;goal a and b and a and c or d and b and c or a and d;costs 4;costs 5;",
+            "",
+            "cond d;never d;never d;never d;never d;goal d or true;loses 1;draw 1;",
+            "cond a;",
+            "costs ones + looks + number + comes + 4;goal false or (false and true);",
+            "cond a;cond b;cond c;cond d;goal d;",
+            "cond a;cond b;goal not a and (b or a);"
+        };
+        FlipCover x = new FlipCover();
+        FlipCover good = x;
+        for (int n = 0; n < 3 * texts.length; n++) {
+            String text = texts[n * 7 % texts.length];
+            Bench.put(x, text);
+            FlipCover y = Bench.of(text);
+            due("4: in turn " + n, x.decision(), y.fault(0) == 0 ? y.about(0) : -1);
+            good = y.fault(0) == 0 ? y : good;
+            alike("4: in turn " + n, x, good);
+        }
+    }
+
+    /** Asks two objects for all that hangs on their decisions. */
+    private static void alike(String call, FlipCover x, FlipCover y) {
+        for (int i = 0; i < 16; i++) {
+            due(call + " about " + i, x.about(i), y.about(i));
+            due(call + " shown " + i, x.shown(i), y.shown(i));
+            for (int what = 0; what < 7; what++) {
+                due(call + " test " + i + " " + what, x.test(i, what), y.test(i, what));
+            }
+            for (int form = 0; form < 3; form++) {
+                due(call + " partners " + i + " " + form, x.partners(i % 4, i, form), y.partners(i % 4, i, form));
+                due(call + " pairs " + i + " " + form, x.pairs(i, form), y.pairs(i, form));
+            }
+        }
+        for (int f = 0; f < 40; f++) {
+            due(call + " shows " + f, x.shows(f), y.shows(f));
+        }
+        for (int form = 0; form < 3; form++) {
+            due(call + " coverable " + form, x.coverable(form), y.coverable(form));
+            due(call + " law " + form, x.law(form), y.law(form));
+            due(call + " least " + form, x.least(form, 1), y.least(form, 1));
+            due(call + " cheapest " + form, x.cheapest(form, 1), y.cheapest(form, 1));
+            due(call + " more " + form, x.more(form, 1), y.more(form, 1));
+        }
+        due(call + " killers", x.killers(1), y.killers(1));
+        due(call + " possible", x.possible(), y.possible());
+        due(call + " truths", x.truths(), y.truths());
+        due(call + " dead", x.dead(), y.dead());
+        due(call + " ways", x.ways(), y.ways());
+        due(call + " faulties", x.faulties(), y.faulties());
     }
 
     private static void fault(String text, int sort, int place) {
@@ -376,6 +435,9 @@ public final class TextPromiseTest {
         // and binds closer than or; not closest
         due("6: binding", Bench.of("cond a;cond b;cond c;goal a or b and not a or c;").truths(), 0xFE);
         due("6: brackets", Bench.of("cond a;cond b;cond c;goal (a or b) and not (a or c);").truths(), 4);
+        due("6: not thrice", Bench.of("cond a;goal not not not a;").truths(), 1);
+        due("6: not four times", Bench.of("cond a;goal not not not not a;").truths(), 2);
+        due("6: not of ( )", Bench.of("cond a;cond b;goal not (not a and not b);").truths(), 14);
         due("6: true, false", Bench.of("cond a;goal false or true and a;").truths(), 2);
         due("6: fourth condition", Bench.of("cond a;cond b;cond c;cond d;goal d;").truths(), 0xFF00);
     }
@@ -410,6 +472,11 @@ public final class TextPromiseTest {
         due("6: sums ahead of relations", cost("1 + 1 = 2", 0), 1);
         due("6: and of what is not 0", cost("5 and 0 - 3", 0), 1);
         due("6: and 0", cost("5 and 0", 0), 0);
+        due("6: 1 and 1", cost("1 and 1", 0), 1);
+        due("6: 1 and 0", cost("1 and 0", 0), 0);
+        due("6: 0 and 1", cost("0 and 1", 0), 0);
+        due("6: 0 and 5", cost("0 and 5", 0), 0);
+        due("6: 1 or 0", cost("1 or 0", 0), 1);
         due("6: or", cost("0 or 7", 0), 1);
         due("6: or 0", cost("0 or 0", 0), 0);
         due("6: and ahead of or", cost("1 or 1 and 0", 0), 1);
