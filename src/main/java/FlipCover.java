@@ -757,7 +757,7 @@ public final class FlipCover {
     static final class Formula {
         static final int NOTHING_TURNED = -1;
         private static final int MOST_NODES = 2 * MOST_LOOKS - 1;
-        static final int LOOK = 0;
+        private static final int LOOK = 0;
 
         private final int[] sorts = new int[MOST_NODES];
         private final int[] lefts = new int[MOST_NODES];
@@ -779,7 +779,7 @@ public final class FlipCover {
             links = 0;
         }
 
-        /** Adds a look (its node is added apart): of a condition, or of NONE that is the same in all tests. */
+        /** Adds a look with its node: of a condition, or of NONE that is the same in all tests. */
         int addLook(int condition, int tests, int within) {
             if (looks >= MOST_LOOKS) {
                 return NONE;
@@ -788,7 +788,7 @@ public final class FlipCover {
             lookTests[looks] = tests;
             lookWithin[looks] = within;
             looks++;
-            return looks - 1;
+            return addNode(LOOK, looks - 1, NONE, NONE);
         }
 
         /** Numbers an and, an or as it is met, for its node comes only behind what it joins. */
@@ -808,7 +808,7 @@ public final class FlipCover {
             }
         }
 
-        int addNode(int sort, int mark, int left, int right) {
+        private int addNode(int sort, int mark, int left, int right) {
             if (nodes >= MOST_NODES) {
                 return NONE;
             }
@@ -1266,9 +1266,8 @@ public final class FlipCover {
                 return refuse(UNKNOWN);
             }
             int same = isTrue ? ALL_TESTS : 0;
-            int look = formula.addLook(condition, condition == NONE ? same : CONDITION_TESTS[condition], within);
             tokens.advance();
-            return formula.addNode(Formula.LOOK, look, NONE, NONE);
+            return formula.addLook(condition, condition == NONE ? same : CONDITION_TESTS[condition], within);
         }
 
         /** Reads an e; its node, or NONE behind a fault. */
@@ -1499,6 +1498,7 @@ public final class FlipCover {
     abstract static class Search {
         /** Each test weighs the same, so that the lightest set is the one of the fewest tests. */
         static final int[] ONE_EACH = {1, 1, 1, 1, 1, 1, 1, 1, 1, 1, 1, 1, 1, 1, 1, 1};
+        private static final int HEAVIER_THAN_ALL = 0x7FFFFFFF;
 
         private int[] weights = ONE_EACH;
         private long wanted;
@@ -1519,7 +1519,7 @@ public final class FlipCover {
             wanted = want;
             had = have;
             free = withoutOutdone(outOf & ALL_TESTS);
-            lightest = Integer.MAX_VALUE;
+            lightest = HEAVIER_THAN_ALL;
             found = 0;
             choose(this, MOST_TESTS, 0, 0);
             return found;

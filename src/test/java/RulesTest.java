@@ -41,6 +41,9 @@ public final class RulesTest {
             "equals", "hashCode", "toString", "double", "float", "transient")) {
             due("word " + word, count(bare, "\\b" + word + "\\b"), 0);
         }
+        // functions alone: a constant as Integer.MAX_VALUE is not on the list
+        String others = "\\b(?:Integer|Long|Math)\\.(?!(?:bitCount|compare|max|min|abs|floorDiv|floorMod)\\()";
+        due("what else of Integer, Long, Math", count(bare, others), 0);
         for (String sign : List.of("->", "::", "@", "\\bnew [A-Z][A-Za-z]*\\([^)]*\\) \\{")) {
             due("sign " + sign, count(bare, sign), 0);
         }
