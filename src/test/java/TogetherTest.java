@@ -91,6 +91,8 @@ public final class TogetherTest {
         due("2, 4, 6", x.possible(), set(2, 4, 6));
         due("b is not looked at, as a is 0", x.dead(), 2);
         due("in all tests it sways what it did", x.sway(1), 2);
+        due("c alone is covered", x.coverable(0), 4);
+        due("were no never told", x.law(0), 3);
     }
 
     private static void pairsOfTestsThatCanBe() {
